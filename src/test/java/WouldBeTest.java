@@ -110,6 +110,8 @@ public final class WouldBeTest {
         x.tear();
         x.rest(0);
         check.is("would(0, 2) at 60", 12, x.would(0, 2));
+        check.is("best() at 60", -1, x.best());
+        check.is("worth(59) at 60", 0, x.worth(59));
         check.is("would(0, 0) at 60", 0, x.would(0, 0));
     }
 
