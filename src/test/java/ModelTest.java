@@ -4,7 +4,8 @@
  */
 public final class ModelTest {
     private static final int RUNS = 60;
-    private static final int CALLS = 512;
+    // With the digest at the end these are the 512 that the document promises.
+    private static final int CALLS = 511;
     private static final Check check = new Check();
 
     private static long seed = 20261120;
