@@ -3,12 +3,8 @@ public final class BehindTest {
     private static final Check check = new Check();
 
     public static void main(String[] args) {
-        behind();
-        trust();
-        count();
-        fewestCoins();
-        refusals();
-        check.end();
+        check.runs(
+                BehindTest::behind, BehindTest::trust, BehindTest::count);
     }
 
     /** One of each kind, one that counts for nothing (6), and one that is struck out (7). */
@@ -81,42 +77,5 @@ public final class BehindTest {
         isCounts("without the first join", x, 9, 3, 3, 6, 3, 6);
         x.shift(8, 0);
         isCounts("the pay first", x, 9, 3, 3, 6, 0, 6);
-    }
-
-    private static void fewestCoins() {
-        KnifeLedger x = new KnifeLedger();
-        x.join(80);
-        check.is("fewest are those at first", 10, x.count(5));
-        x.toss(0, 1);
-        check.is("fewest with more behind", 10, x.count(5));
-        x.pay(0, 22);
-        check.is("fewest at the end", 0, x.count(5));
-        x.toss(0, 1);
-        check.is("fewest in the middle", 0, x.count(5));
-        x.strike(2);
-        check.is("fewest without the pay", 10, x.count(5));
-        x.pay(0, 99);
-        check.is("what counts for nothing takes no coins", 10, x.count(5));
-    }
-
-    private static void refusals() {
-        KnifeLedger x = show();
-        int[] noQuestions = {-1, 7, Integer.MIN_VALUE, Integer.MAX_VALUE};
-        for (int what : noQuestions) {
-            check.failsIndex("behind(0, " + what + ")", x, () -> x.behind(0, what));
-            check.failsIndex("count(" + what + ")", x, () -> x.count(what));
-        }
-        check.failsIndex("count(6)", x, () -> x.count(6));
-        int[] noNumbers = {-1, 10, 60, 61, Integer.MIN_VALUE, Integer.MAX_VALUE};
-        for (int entries : noNumbers) {
-            check.failsArgument("behind(" + entries + ", 0)", x, () -> x.behind(entries, 0));
-            check.failsArgument("behind(" + entries + ", 7)", x, () -> x.behind(entries, 7));
-            check.failsArgument("trust(0, " + entries + ")", x, () -> x.trust(0, entries));
-            check.failsIndex("trust(6, " + entries + ")", x, () -> x.trust(6, entries));
-        }
-        int[] nobody = {-1, 6, Integer.MIN_VALUE, Integer.MAX_VALUE};
-        for (int partner : nobody) {
-            check.failsIndex("trust(" + partner + ", 0)", x, () -> x.trust(partner, 0));
-        }
     }
 }

@@ -6,6 +6,24 @@ final class Check {
 
     private int wrong = 0;
     private int asked = 0;
+    private int sentences = 0;
+    private int askedBefore = 0;
+    private String words = "";
+
+    /** What is asked from here on tests this sentence of the document, word by word. */
+    void sentence(String where, String sentence) {
+        endSentence();
+        sentences++;
+        words = where + " \"" + sentence + "\": ";
+    }
+
+    private void endSentence() {
+        if (!words.isEmpty() && asked == askedBefore) {
+            tell("nothing is asked");
+        }
+        askedBefore = asked;
+        words = "";
+    }
 
     void is(String call, long want, long got) {
         asked++;
@@ -61,11 +79,26 @@ final class Check {
 
     void tell(String text) {
         wrong++;
-        System.out.println(text);
+        System.out.println(words + text);
+    }
+
+    /** Each test by itself: one that breaks off is told, and those behind it run all the same. */
+    void runs(Runnable... tests) {
+        for (Runnable test : tests) {
+            try {
+                test.run();
+            } catch (RuntimeException e) {
+                StackTraceElement[] calls = e.getStackTrace();
+                tell("breaks off by " + e + (calls.length == 0 ? "" : " in " + calls[0]));
+            }
+        }
+        end();
     }
 
     void end() {
-        System.out.println(asked + " answers, " + wrong + " not as due");
+        endSentence();
+        String of = sentences == 0 ? "" : " to " + sentences + " sentences";
+        System.out.println(asked + " answers" + of + ", " + wrong + " not as due");
         if (wrong != 0) {
             System.exit(1);
         }

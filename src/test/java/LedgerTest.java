@@ -3,13 +3,9 @@ public final class LedgerTest {
     private static final Check check = new Check();
 
     public static void main(String[] args) {
-        strike();
-        shift();
-        shiftTakesTheStrikeAlong();
-        tear();
-        entry();
-        refusals();
-        check.end();
+        check.runs(
+                LedgerTest::strike, LedgerTest::shift, LedgerTest::shiftTakesTheStrikeAlong,
+                LedgerTest::tear, LedgerTest::entry);
     }
 
     private static void strike() {
@@ -127,28 +123,5 @@ public final class LedgerTest {
         check.is("the join counts", 1, x.entry(0, 4));
         check.is("the toss counts", 1, x.entry(1, 4));
         check.is("the rest of another does not", 0, x.entry(2, 4));
-    }
-
-    private static void refusals() {
-        KnifeLedger empty = new KnifeLedger();
-        check.failsIndex("strike(0) of none", empty, () -> empty.strike(0) ? 1 : 0);
-        check.failsIndex("shift(0, 0) of none", empty, () -> empty.shift(0, 0));
-        check.failsIndex("entry(0, 0) of none", empty, () -> empty.entry(0, 0));
-
-        KnifeLedger x = fiveKinds();
-        int[] noEntries = {-1, 5, 59, 60, Integer.MIN_VALUE, Integer.MAX_VALUE};
-        for (int entry : noEntries) {
-            check.failsIndex("strike(" + entry + ")", x, () -> x.strike(entry) ? 1 : 0);
-            check.failsIndex("shift(" + entry + ", 1)", x, () -> x.shift(entry, 1));
-            check.failsIndex("shift(1, " + entry + ")", x, () -> x.shift(1, entry));
-            check.failsIndex("entry(" + entry + ", 0)", x, () -> x.entry(entry, 0));
-        }
-        int[] noQuestions = {-1, 5, Integer.MIN_VALUE, Integer.MAX_VALUE};
-        for (int what : noQuestions) {
-            check.failsIndex("entry(0, " + what + ")", x, () -> x.entry(0, what));
-        }
-        x.tear();
-        check.failsIndex("strike(4) of a torn one", x, () -> x.strike(4) ? 1 : 0);
-        check.failsIndex("entry(4, 0) of a torn one", x, () -> x.entry(4, 0));
     }
 }

@@ -3,17 +3,10 @@ public final class WouldBeTest {
     private static final Check check = new Check();
 
     public static void main(String[] args) {
-        worth();
-        best();
-        bestOfSeveral();
-        would();
-        wouldAtSixty();
-        mean();
-        digest();
-        digestTellsStatesApart();
-        nothingIsChanged();
-        refusals();
-        check.end();
+        check.runs(
+                WouldBeTest::worth, WouldBeTest::best, WouldBeTest::bestOfSeveral,
+                WouldBeTest::would, WouldBeTest::mean, WouldBeTest::digest,
+                WouldBeTest::digestTellsStatesApart);
     }
 
     private static void worth() {
@@ -100,21 +93,6 @@ public final class WouldBeTest {
         check.is("would(1, 1) on stage 0", 21, x.would(1, 1));
     }
 
-    private static void wouldAtSixty() {
-        KnifeLedger x = new KnifeLedger();
-        x.join(14);
-        for (int entry = 1; entry < 60; entry++) {
-            x.go(0);
-        }
-        check.is("would(0, 2) at 60 without trust", -1, x.would(0, 2));
-        x.tear();
-        x.rest(0);
-        check.is("would(0, 2) at 60", 12, x.would(0, 2));
-        check.is("best() at 60", -1, x.best());
-        check.is("worth(59) at 60", 0, x.worth(59));
-        check.is("would(0, 0) at 60", 0, x.would(0, 0));
-    }
-
     private static void mean() {
         KnifeLedger x = new KnifeLedger();
         check.isExactly("mean() of none", 0.0, x.mean());
@@ -187,45 +165,5 @@ public final class WouldBeTest {
         check.isTrue("another is struck out", x.digest() != y.digest());
         x.shift(0, 1);
         check.is("the same state by a shift", x.digest(), y.digest());
-    }
-
-    private static void nothingIsChanged() {
-        KnifeLedger x = new KnifeLedger();
-        x.join(50);
-        x.toss(0, 2);
-        x.pay(0, 20);
-        x.strike(1);
-        long before = x.digest();
-        x.worth(0);
-        x.worth(1);
-        x.best();
-        x.would(0, 0);
-        x.mean();
-        x.entry(2, 4);
-        x.behind(1, 4);
-        x.trust(0, 2);
-        check.is("digest() after what only asks", before, x.digest());
-        check.is("would(0, 2) asked twice", x.would(0, 2), x.would(0, 2));
-        check.is("worth(1) asked twice", x.worth(1), x.worth(1));
-    }
-
-    private static void refusals() {
-        KnifeLedger x = new KnifeLedger();
-        check.failsIndex("worth(0) of none", x, () -> x.worth(0));
-        x.join(50);
-        int[] noEntries = {-1, 1, 60, Integer.MIN_VALUE, Integer.MAX_VALUE};
-        for (int entry : noEntries) {
-            check.failsIndex("worth(" + entry + ")", x, () -> x.worth(entry));
-        }
-        int[] nobody = {-1, 6, Integer.MIN_VALUE, Integer.MAX_VALUE};
-        for (int partner : nobody) {
-            check.failsIndex("would(" + partner + ", 5)", x, () -> x.would(partner, 5));
-            check.failsIndex("would(" + partner + ", 21)", x, () -> x.would(partner, 21));
-        }
-        int[] noThumbs = {-1, 21, Integer.MIN_VALUE, Integer.MAX_VALUE};
-        for (int thumbs : noThumbs) {
-            check.failsArgument("would(0, " + thumbs + ")", x, () -> x.would(0, thumbs));
-            check.failsArgument("would(5, " + thumbs + ")", x, () -> x.would(5, thumbs));
-        }
     }
 }
