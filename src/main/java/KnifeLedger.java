@@ -20,9 +20,6 @@ public final class KnifeLedger {
     private static final int PAY = 4;
     private static final int BUY = 5;
 
-    private final int[] lights = new int[STAGES];
-    private final int[] trembles = new int[STAGES];
-
     private final int[] kinds = new int[MOST_ENTRIES];
     private final int[] firsts = new int[MOST_ENTRIES];
     private final int[] seconds = new int[MOST_ENTRIES];
@@ -30,7 +27,7 @@ public final class KnifeLedger {
     private int size = 0;
 
     // One reckoning serves every call: each starts it anew, so that no call makes objects.
-    private final Reckoning reckoning = new Reckoning(lights, trembles);
+    private final Reckoning reckoning = new Reckoning();
 
     public KnifeLedger() {
     }
@@ -42,9 +39,9 @@ public final class KnifeLedger {
         needIndex(stage, STAGES);
         needWithin(light, 0, MOST_LIGHT_OR_TREMBLE);
         needWithin(tremble, 0, MOST_LIGHT_OR_TREMBLE);
-        int before = 10 * lights[stage] + trembles[stage];
-        lights[stage] = light;
-        trembles[stage] = tremble;
+        int before = 10 * reckoning.lights[stage] + reckoning.trembles[stage];
+        reckoning.lights[stage] = light;
+        reckoning.trembles[stage] = tremble;
         return before;
     }
 
@@ -227,8 +224,8 @@ public final class KnifeLedger {
             d = d * 31 + count(what);
         }
         for (int stage = 0; stage < STAGES; stage++) {
-            d = d * 31 + lights[stage];
-            d = d * 31 + trembles[stage];
+            d = d * 31 + reckoning.lights[stage];
+            d = d * 31 + reckoning.trembles[stage];
         }
         for (int entry = 0; entry < size; entry++) {
             for (int what = 0; what < ENTRY_QUESTIONS; what++) {
@@ -289,7 +286,8 @@ public final class KnifeLedger {
         for (int entry = 0; entry < entries; entry++) {
             boolean out = struck[entry] != (entry == flipped);
             if (!out) {
-                reckoning.reckonEntry(entry, kinds[entry], firsts[entry], seconds[entry]);
+                boolean held = reckoning.happens(kinds[entry], firsts[entry], seconds[entry]);
+                reckoning.tally(entry, held);
             }
         }
     }
@@ -313,8 +311,9 @@ public final class KnifeLedger {
         private static final int LEAST_TRUST_FOR_TOSS = 20;
         private static final int PLASTER_PRICE = 2;
 
-        private final int[] lights;
-        private final int[] trembles;
+        // The stages stand here, as a constructor hands nothing out of the object that it makes.
+        private final int[] lights = new int[STAGES];
+        private final int[] trembles = new int[STAGES];
         private final int[] trusts = new int[PARTNERS];
         private int coins;
         private int plasters;
@@ -324,11 +323,6 @@ public final class KnifeLedger {
         private int idle;
         private int firstIdle;
         private int fewestCoins;
-
-        private Reckoning(int[] lights, int[] trembles) {
-            this.lights = lights;
-            this.trembles = trembles;
-        }
 
         private void begin() {
             coins = FIRST_COINS;
@@ -341,14 +335,15 @@ public final class KnifeLedger {
             fewestCoins = FIRST_COINS;
         }
 
-        private void reckonEntry(int number, int kind, int first, int second) {
-            if (happens(kind, first, second)) {
+        /** Takes down an entry that is not struck out; held: what it asks held, so it counts. */
+        private void tally(int entry, boolean held) {
+            if (held) {
                 counting++;
                 fewestCoins = Math.min(fewestCoins, coins);
                 return;
             }
             if (idle == 0) {
-                firstIdle = number;
+                firstIdle = entry;
             }
             idle++;
         }
@@ -386,25 +381,11 @@ public final class KnifeLedger {
                 return false;
             }
             coins += takings(thumbs);
-            if (thumbs == 0) {
-                scratch(partner);
-            } else if (thumbs <= 3) {
-                addTrust(partner, -4);
-            } else if (thumbs <= 9) {
-                addTrust(partner, 1);
-            } else {
-                addTrust(partner, 3);
+            addTrust(partner, trustMore(thumbs));
+            if (thumbs == 0 && plasters > 0) {
+                plasters--;
             }
             return true;
-        }
-
-        private void scratch(int partner) {
-            if (plasters > 0) {
-                plasters--;
-                addTrust(partner, -30);
-            } else {
-                addTrust(partner, -60);
-            }
         }
 
         private boolean happensRest(int partner) {
@@ -456,6 +437,20 @@ public final class KnifeLedger {
                 return 5 + lights[stage] / 2;
             }
             return 1;
+        }
+
+        /** How much more a partner trusts by a toss, with the plasters that there are before it. */
+        private int trustMore(int thumbs) {
+            if (thumbs == 0) {
+                return plasters > 0 ? -30 : -60;
+            }
+            if (thumbs <= 3) {
+                return -4;
+            }
+            if (thumbs <= 9) {
+                return 1;
+            }
+            return 3;
         }
 
         private void addTrust(int partner, int more) {
