@@ -264,9 +264,9 @@ public final class LanguageTest {
                 }
                 // Methods that share a name would count as one, which is no less deep.
                 calls.putIfAbsent(method, new TreeSet<>());
-                lines.put(method, linesOf(tree));
+                lines.merge(method, linesOf(tree), Math::max);
             }
-            parameters.put(method, tree.getParameters().size());
+            parameters.merge(method, tree.getParameters().size(), Math::max);
             super.visitMethod(tree, none);
             method = outer;
             inConstructor = outerConstructor;
